@@ -183,6 +183,7 @@ public final class PromiseTest {
         end();
         theorem();
         instance();
+        instanceOfParts();
         thrift();
         digest();
         System.out.println(wrong == 0 ? checks + " checks of the promises hold" : wrong + " faults of the promises");
@@ -822,9 +823,19 @@ public final class PromiseTest {
         steps(x, 0, 13, x.make(4, then, then), 2, 0, 77);
         lineIs(x, 1, x.make(4, then, then), 13, 2, 0, 0, -1, 1, 1);
         steps(x, 1, 13, x.make(4, then, then), 2, 3, 0);
+        steps(x, 0, 13, x.make(4, then, then), 2, 0, 1);
+        lineIs(x, 2, x.make(4, then, then), 13, 2, 0, 0, -1, 1, 1);
+        steps(x, 3, 13, x.make(4, then, then), 2, 1, 1);
         x.assume(then);
         x.close();
-        steps(x, 1, 13, x.make(4, then, then), 2, 2, 0);
+        steps(x, 1, 13, x.make(4, then, then), 2, 3, 0);
+        x.begin();
+        x.assume(a);
+        x.close();
+        steps(x, 0, 7, x.make(5, a, a), 0, 0, 0);
+        due("theorem 3: a>a", x.end(), 3);
+        steps(x, 0, 13, x.make(5, then, then), 3, 4, 5);
+        lineIs(x, 0, x.make(5, then, then), 13, 3, 0, 0, -1, 1, 1);
     }
 
     private static void stepTheoremLetters() {
@@ -1047,7 +1058,29 @@ public final class PromiseTest {
         due("a step", x.fails(2), 0);
         x.close();
         due("behind the box", x.fails(2), 0);
-        thrown("line 3", x, INDEX, () -> x.fails(3));
+        x.assume(h);
+        x.assume(or);
+        x.assume(h);
+        x.step(0, a, 0, 0, 0);
+        x.step(0, h, 3, 0, 0);
+        x.step(1, x.make(3, a, h), 6, 7, 0);
+        for (int k = 3; k < 9; k++) {
+            due("within boxes " + k, x.fails(k), 0);
+        }
+        x.begin();
+        x.assume(h);
+        x.assume(a);
+        x.step(0, h, 0, 0, 0);
+        due("by the assumption of the outer box", x.fails(2), 0);
+        x.begin();
+        x.premise(h);
+        x.premise(a);
+        x.assume(or);
+        x.step(0, h, 0, 0, 0);
+        x.step(0, a, 1, 0, 0);
+        due("by the first premise", x.fails(3), 0);
+        due("by the second premise", x.fails(4), 0);
+        thrown("line 5", x, INDEX, () -> x.fails(5));
         thrown("line -1", x, INDEX, () -> x.fails(-1));
         thrown("line MIN", x, INDEX, () -> x.fails(MIN));
     }
@@ -1162,6 +1195,22 @@ public final class PromiseTest {
         hintIs(y, 3, 6, 0, 1, 0);
         y.step(6, 3, 0, 1, 0);
         hintIs(y, 3, 0, 10, 0, 0);
+        ProofDesk z = new ProofDesk();
+        int or2 = z.make(4, z.make(0, 0, 0), z.make(0, 1, 0));
+        int goal = z.make(4, 1, 0);
+        z.premise(or2);
+        z.assume(or2);
+        z.close();
+        z.assume(0);
+        z.step(5, goal, 2, 0, 0);
+        z.close();
+        z.assume(0);
+        z.close();
+        noHint(z, goal);
+        z.assume(1);
+        z.step(4, goal, 5, 0, 0);
+        z.close();
+        hintIs(z, goal, 6, 0, 1, 3);
         for (int k = y.count(3); k < 60; k++) {
             y.step(0, 3, 10, 0, 0);
         }
@@ -1284,6 +1333,34 @@ public final class PromiseTest {
         due("a huge one", y.instance(0, b + 118, 0), b);
         due("one that is too small", y.instance(0, b + 117, 0), -1);
         due("premises do not matter", y.instance(0, 118, 0), 0);
+    }
+
+    private static void instanceOfParts() {
+        part = "24 instance, the parts";
+        ProofDesk x = new ProofDesk();
+        int no = x.make(1, 0, 0);
+        int a = x.make(0, 0, 0);
+        int b = x.make(0, 1, 0);
+        int[] conclusions = {x.make(5, no, a), x.make(3, a, a), x.make(2, a, 0), a};
+        for (int f : conclusions) {
+            x.premise(f);
+            x.end();
+        }
+        due("# stays #", x.instance(0, x.make(5, no, b), 0), b);
+        due("# is no letter", x.instance(0, x.make(5, b, b), 0), -1);
+        due("# is no letter", x.instance(0, x.make(5, x.make(2, no, 0), b), 0), -1);
+        due("a letter becomes #", x.instance(1, x.make(3, no, no), 0), no);
+        due("a letter becomes one formula", x.instance(1, x.make(3, no, b), 0), -1);
+        due("a letter becomes one formula", x.instance(1, x.make(3, b, no), 0), -1);
+        due("what is denied", x.instance(2, x.make(2, b, 0), 0), b);
+        due("what is denied", x.instance(2, x.make(2, x.make(2, no, 0), 0), 0), x.make(2, no, 0));
+        due("a letter becomes anything", x.instance(3, conclusions[1], 0), conclusions[1]);
+        due("# does", x.instance(3, no, 0), no);
+        ProofDesk y = full();
+        y.premise(239);
+        y.end();
+        due("the last formula", y.instance(0, 239, 0), 0);
+        due("another one", y.instance(0, 238, 0), -1);
     }
 
     private static void thrift() {
