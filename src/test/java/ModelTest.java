@@ -5,7 +5,8 @@ import java.util.function.LongSupplier;
 
 /** Long mixed runs: every answer, exception and digest of the program against those of the model. */
 public final class ModelTest {
-    private static final int RUNS = 600;
+    private static final int RUNS = 1000;
+    /** All calls on one object of the program: what later ones answer is free. */
     private static final int CALLS = 512;
     /** Of how many methods and exceptions the document tells that they go together. */
     private static final int THROWN = 28;
@@ -50,17 +51,32 @@ public final class ModelTest {
         calls++;
         String got = told(program);
         String want = told(other);
-        boolean same = got.equals(want) && x.digest() == model.digest() && x.errorAt() == model.errorAt()
-                && Double.compare(x.thrift(), model.thrift()) == 0;
-        if (!same) {
+        if (!got.equals(want)) {
             wrong++;
-            System.out.println("run " + run + ", call " + calls + ": " + what + " answered " + got + ", due is " + want
-                    + "; digests " + x.digest() + ", " + model.digest());
+            System.out.println("run " + run + ", call " + calls + ": " + what + " answered " + got + ", due is " + want);
         }
         if (got.contains("Exception")) {
             thrown.add(what.replaceAll("[( ].*", "") + " " + got.replaceAll(".*[.]", ""));
         }
+        // To look at the state costs calls, too: some runs look at it often, others have more calls of other kinds.
+        if (calls < CALLS && (run % 3 == 0 || chance(10))) {
+            looks("digest behind " + what, x.digest() == model.digest());
+        }
+        if (calls < CALLS && chance(6)) {
+            looks("errorAt behind " + what, x.errorAt() == model.errorAt());
+        }
+        if (calls < CALLS && chance(3)) {
+            looks("thrift behind " + what, Double.compare(x.thrift(), model.thrift()) == 0);
+        }
         return got;
+    }
+
+    private void looks(String what, boolean same) {
+        calls++;
+        if (!same) {
+            wrong++;
+            System.out.println("run " + run + ", call " + calls + ": " + what + " is not as due");
+        }
     }
 
     private static int number(String answer) {
@@ -95,25 +111,25 @@ public final class ModelTest {
     }
 
     private int anyFormula() {
-        return of(x.count(0));
+        return of(model.count(0));
     }
 
     private int lineFormula(int line) {
-        return line >= 0 && line < x.count(3) ? x.line(line, 0) : 0;
+        return line >= 0 && line < model.count(3) ? model.line(line, 0) : 0;
     }
 
     private int seenLine() {
-        int line = of(x.count(3));
-        for (int n = 0; n < 8 && line >= 0 && line < x.count(3) && x.line(line, 6) == 0; n++) {
-            line = pick(x.count(3));
+        int line = of(model.count(3));
+        for (int n = 0; n < 8 && line >= 0 && line < model.count(3) && model.line(line, 6) == 0; n++) {
+            line = pick(model.count(3));
         }
         return line;
     }
 
     private int seenBox() {
-        int box = of(x.count(4));
-        for (int n = 0; n < 8 && box >= 0 && box < x.count(4) && x.box(box, 3) == 0; n++) {
-            box = pick(x.count(4));
+        int box = of(model.count(4));
+        for (int n = 0; n < 8 && box >= 0 && box < model.count(4) && model.box(box, 3) == 0; n++) {
+            box = pick(model.count(4));
         }
         return box;
     }
@@ -136,7 +152,7 @@ public final class ModelTest {
         for (int n = 0; n < 110 && chance(98) && text.length() > 30; n++) {
             text.append("|a>b&-c>".charAt(n % 8));
         }
-        int before = x.count(1);
+        int before = model.count(1);
         for (int at = 0; at < text.length(); at += 20) {
             int[] w = new int[5];
             for (int k = 0; k < 20; k++) {
@@ -145,7 +161,7 @@ public final class ModelTest {
             both("feed", () -> x.feed(w[0], w[1], w[2], w[3], w[4]), () -> model.feed(w[0], w[1], w[2], w[3], w[4]));
         }
         if (chance(80)) {
-            int n = chance(10) ? of(x.count(1)) : before + text.length();
+            int n = chance(10) ? of(model.count(1)) : before + text.length();
             both("trim(" + n + ")", () -> x.trim(n), () -> model.trim(n));
         }
         int f = number(both("read of " + text, () -> x.read(), () -> model.read()));
@@ -174,7 +190,7 @@ public final class ModelTest {
 
     private void makeSome() {
         if (mood == 2 && chance(70)) {
-            int f = x.count(0) - 1;
+            int f = model.count(0) - 1;
             make(chance(50) ? 2 : 3 + pick(3), f, chance(50) ? f : pick(f + 1));
             return;
         }
@@ -190,7 +206,7 @@ public final class ModelTest {
         int c = seenLine();
         int f = anyFormula();
         int fa = lineFormula(a);
-        int sort = x.count(0) > 0 ? x.formula(fa, 0) : 0;
+        int sort = model.count(0) > 0 ? model.formula(fa, 0) : 0;
         switch (rule) {
             case 0:
                 f = fa;
@@ -200,7 +216,7 @@ public final class ModelTest {
                 break;
             case 2:
             case 3:
-                f = sort == 3 ? x.formula(fa, rule - 1) : f;
+                f = sort == 3 ? model.formula(fa, rule - 1) : f;
                 break;
             case 4:
                 f = make(4, fa, f);
@@ -211,28 +227,28 @@ public final class ModelTest {
             case 6:
                 b = seenBox();
                 c = seenBox();
-                f = b >= 0 && b < x.count(4) ? lineFormula(x.box(b, 1)) : f;
+                f = b >= 0 && b < model.count(4) ? lineFormula(model.box(b, 1)) : f;
                 break;
             case 7:
             case 9:
                 a = seenBox();
-                if (a >= 0 && a < x.count(4)) {
-                    int first = lineFormula(x.box(a, 0));
-                    f = rule == 9 ? make(2, first, 0) : make(5, first, lineFormula(x.box(a, 1)));
+                if (a >= 0 && a < model.count(4)) {
+                    int first = lineFormula(model.box(a, 0));
+                    f = rule == 9 ? make(2, first, 0) : make(5, first, lineFormula(model.box(a, 1)));
                 }
                 break;
             case 8:
-                f = sort == 5 ? x.formula(fa, 2) : f;
+                f = sort == 5 ? model.formula(fa, 2) : f;
                 break;
             case 10:
                 f = make(1, 0, 0);
                 break;
             case 13:
-                a = of(x.count(7));
+                a = of(model.count(7));
                 f = changedConclusion(a, f);
                 break;
             default:
-                f = sort == 2 && x.formula(x.formula(fa, 1), 0) == 2 ? x.formula(x.formula(fa, 1), 1) : f;
+                f = sort == 2 && model.formula(model.formula(fa, 1), 0) == 2 ? model.formula(model.formula(fa, 1), 1) : f;
                 break;
         }
         step(rule, f, a, b, c);
@@ -240,34 +256,34 @@ public final class ModelTest {
 
     /** The conclusion of a theorem with other formulas in the places of its letters. */
     private int changedConclusion(int theorem, int otherwise) {
-        if (theorem < 0 || theorem >= x.count(7) || !small(x.theorem(theorem, 0))) {
+        if (theorem < 0 || theorem >= model.count(7) || !small(model.theorem(theorem, 0))) {
             return otherwise;
         }
         int[] letters = new int[8];
         for (int k = 0; k < 8; k++) {
-            letters[k] = chance(60) && x.count(3) > 0 ? lineFormula(pick(x.count(3))) : pick(x.count(0));
+            letters[k] = chance(60) && model.count(3) > 0 ? lineFormula(pick(model.count(3))) : pick(model.count(0));
         }
-        return changed(x.theorem(theorem, 0), letters);
+        return changed(model.theorem(theorem, 0), letters);
     }
 
     private int changed(int f, int[] letters) {
         if (f < 0) {
             return -1;
         }
-        int sort = x.formula(f, 0);
+        int sort = model.formula(f, 0);
         if (sort == 0) {
-            return letters[x.formula(f, 1)];
+            return letters[model.formula(f, 1)];
         }
-        int one = sort >= 2 ? changed(x.formula(f, 1), letters) : 0;
-        int two = sort >= 3 ? changed(x.formula(f, 2), letters) : 0;
+        int one = sort >= 2 ? changed(model.formula(f, 1), letters) : 0;
+        int two = sort >= 3 ? changed(model.formula(f, 2), letters) : 0;
         return make(sort, one, two);
     }
 
     /** Opens boxes for both parts of an or, so that there is something for the rule 6. */
     private void cases() {
         int or = -1;
-        for (int k = 0; k < x.count(3); k++) {
-            or = x.line(k, 6) == 1 && x.formula(x.line(k, 0), 0) == 4 ? k : or;
+        for (int k = 0; k < model.count(3); k++) {
+            or = model.line(k, 6) == 1 && model.formula(model.line(k, 0), 0) == 4 ? k : or;
         }
         if (or < 0) {
             int f = make(4, anyFormula(), anyFormula());
@@ -275,12 +291,12 @@ public final class ModelTest {
             return;
         }
         int f = lineFormula(or);
-        int goal = make(4, x.formula(f, 2), x.formula(f, 1));
-        int first = x.count(4);
+        int goal = make(4, model.formula(f, 2), model.formula(f, 1));
+        int first = model.count(4);
         for (int side = 1; side <= 2; side++) {
-            int part = x.formula(f, side);
+            int part = model.formula(f, side);
             both("assume(" + part + ")", () -> x.assume(part), () -> model.assume(part));
-            step(side == 1 ? 5 : 4, goal, x.count(3) - 1, 0, 0);
+            step(side == 1 ? 5 : 4, goal, model.count(3) - 1, 0, 0);
             both("close()", () -> x.close(), () -> model.close());
         }
         if (chance(50)) {
@@ -298,8 +314,8 @@ public final class ModelTest {
         if (chance(50)) {
             hint(no, pick(4));
         }
-        step(10, no, line, x.count(3) - 1, 0);
-        int box = x.count(4) - 1;
+        step(10, no, line, model.count(3) - 1, 0);
+        int box = model.count(4) - 1;
         both("close()", () -> x.close(), () -> model.close());
         int twice = make(2, not, 0);
         if (chance(50)) {
@@ -307,7 +323,7 @@ public final class ModelTest {
         }
         step(9, twice, box, 0, 0);
         if (chance(50)) {
-            step(12, lineFormula(line), x.count(3) - 1, 0, 0);
+            step(12, lineFormula(line), model.count(3) - 1, 0, 0);
         }
     }
 
@@ -319,7 +335,7 @@ public final class ModelTest {
         int f = rule == 8 ? make(5, lineFormula(line), goal) : rule == 11 ? make(1, 0, 0)
                 : rule == 2 ? make(3, goal, anyFormula()) : make(3, anyFormula(), goal);
         both("assume(" + f + ")", () -> x.assume(f), () -> model.assume(f));
-        int assumed = x.count(3) - 1;
+        int assumed = model.count(3) - 1;
         if (chance(50)) {
             hinted[hint(goal, 0) + 1]++;
         }
@@ -328,21 +344,21 @@ public final class ModelTest {
 
     /** Assumes the premises of a theorem, with other formulas in the places of its letters. */
     private void theoremUse() {
-        int theorem = pick(x.count(7));
-        if (theorem >= x.count(7)) {
+        int theorem = pick(model.count(7));
+        if (theorem >= model.count(7)) {
             return;
         }
         int[] letters = new int[8];
         for (int k = 0; k < 8; k++) {
-            letters[k] = pick(Math.min(20, x.count(0)));
+            letters[k] = pick(Math.min(20, model.count(0)));
         }
         int[] references = {0, 0};
-        for (int k = 0; k < x.theorem(theorem, 1); k++) {
-            int f = small(x.theorem(theorem, 2 + k)) ? changed(x.theorem(theorem, 2 + k), letters) : 0;
+        for (int k = 0; k < model.theorem(theorem, 1); k++) {
+            int f = small(model.theorem(theorem, 2 + k)) ? changed(model.theorem(theorem, 2 + k), letters) : 0;
             both("assume(" + f + ")", () -> x.assume(f), () -> model.assume(f));
-            references[k] = x.count(3) - 1;
+            references[k] = model.count(3) - 1;
         }
-        int f = small(x.theorem(theorem, 0)) ? changed(x.theorem(theorem, 0), letters) : 0;
+        int f = small(model.theorem(theorem, 0)) ? changed(model.theorem(theorem, 0), letters) : 0;
         boolean swap = chance(10);
         step(13, f, theorem, references[swap ? 1 : 0], references[swap ? 0 : 1]);
         int letter = pick(8);
@@ -351,7 +367,7 @@ public final class ModelTest {
     }
 
     private boolean small(int f) {
-        return x.formula(f, 5) <= 40;
+        return model.formula(f, 5) <= 40;
     }
 
     /** Comes near to one of the limits: 240 formulas, 16 theorems or 60 lines. */
@@ -367,10 +383,10 @@ public final class ModelTest {
             both("end()", () -> x.end(), () -> model.end());
         }
         for (int k = 0; k < 45 && limit == 2; k++) {
-            if (k % 2 == 0 && x.count(5) < 5) {
+            if (k % 2 == 0 && model.count(5) < 5) {
                 both("assume(0)", () -> x.assume(0), () -> model.assume(0));
             } else if (chance(60)) {
-                step(0, 0, x.count(3) - 1, 0, 0);
+                step(0, 0, model.count(3) - 1, 0, 0);
             } else {
                 both("close()", () -> x.close(), () -> model.close());
             }
@@ -379,10 +395,10 @@ public final class ModelTest {
 
     private void hints() {
         int f = anyFormula();
-        if (chance(50) && x.count(3) > 0) {
+        if (chance(50) && model.count(3) > 0) {
             int g = lineFormula(seenLine());
-            int sort = x.formula(g, 0);
-            f = sort >= 3 ? x.formula(g, 1 + pick(2)) : sort == 2 ? x.formula(g, 1) : f;
+            int sort = model.formula(g, 0);
+            f = sort >= 3 ? model.formula(g, 1 + pick(2)) : sort == 2 ? model.formula(g, 1) : f;
         }
         if (chance(3)) {
             hint(f, of(4));
@@ -400,7 +416,7 @@ public final class ModelTest {
 
     private void look() {
         int one = pick(12);
-        int k = of(one == 0 ? x.count(0) : one == 1 ? x.count(3) : one == 2 ? x.count(4) : x.count(7));
+        int k = of(one == 0 ? model.count(0) : one == 1 ? model.count(3) : one == 2 ? model.count(4) : model.count(7));
         int what = of(8);
         int f = anyFormula();
         int set = chance(5) ? of(256) : pick(256);
@@ -428,11 +444,11 @@ public final class ModelTest {
                 both("write(" + f + ")", () -> x.write(f), () -> model.write(f));
                 break;
             case 8:
-                int place = of(x.count(2));
+                int place = of(model.count(2));
                 both("byteAt(" + place + ")", () -> x.byteAt(place), () -> model.byteAt(place));
                 break;
             case 9:
-                int line = of(x.count(3));
+                int line = of(model.count(3));
                 both("fails(" + line + ")", () -> x.fails(line), () -> model.fails(line));
                 break;
             default:
@@ -448,7 +464,7 @@ public final class ModelTest {
         int f = anyFormula();
         if (one < 6) {
             tape();
-        } else if (one < 16 || x.count(0) == 0) {
+        } else if (one < 16 || model.count(0) == 0) {
             makeSome();
         } else if (one < 20) {
             both("premise(" + f + ")", () -> x.premise(f), () -> model.premise(f));
@@ -459,7 +475,7 @@ public final class ModelTest {
         } else if (one < 60) {
             goodStep();
         } else if (one < 64) {
-            step(of(14), f, of(x.count(3)), of(x.count(3)), of(x.count(3)));
+            step(of(14), f, of(model.count(3)), of(model.count(3)), of(model.count(3)));
         } else if (one < 67) {
             cases();
         } else if (one < 69) {

@@ -1,154 +1,5 @@
 /** Promises 1 to 26, one by one: ordinary inputs, the edges that the document names, wrong inputs. */
-public final class PromiseTest {
-    private static final int MIN = Integer.MIN_VALUE;
-    private static final int MAX = Integer.MAX_VALUE;
-    private static final Class<?> STATE = IllegalStateException.class;
-    private static final Class<?> ARGUMENT = IllegalArgumentException.class;
-    private static final Class<?> INDEX = IndexOutOfBoundsException.class;
-
-    private static int checks = 0;
-    private static int wrong = 0;
-    private static String part = "";
-
-    private interface Call {
-        void go();
-    }
-
-    private static void due(String what, long got, long want) {
-        checks++;
-        if (got != want) {
-            wrong++;
-            System.out.println(part + ": " + what + " answered " + got + ", due is " + want);
-        }
-    }
-
-    private static void same(String what, double got, double want) {
-        checks++;
-        if (Double.compare(got, want) != 0) {
-            wrong++;
-            System.out.println(part + ": " + what + " answered " + got + ", due is " + want);
-        }
-    }
-
-    /** The call throws just this, not a class below it as the machine would, and changes nothing. */
-    private static void thrown(String what, ProofDesk x, Class<?> want, Call call) {
-        checks++;
-        long before = x.digest();
-        int error = x.errorAt();
-        Class<?> got = null;
-        try {
-            call.go();
-        } catch (RuntimeException e) {
-            got = e.getClass();
-        }
-        if (got != want) {
-            wrong++;
-            System.out.println(part + ": " + what + " threw " + got + ", due is " + want);
-        }
-        if (x.digest() != before || x.errorAt() != error) {
-            wrong++;
-            System.out.println(part + ": " + what + " changed something");
-        }
-    }
-
-    private static int word(String text, int at) {
-        int number = 0;
-        for (int k = at; k < at + 4; k++) {
-            number = number << 8 | (k < text.length() ? text.charAt(k) & 255 : ' ');
-        }
-        return number;
-    }
-
-    private static void tape(ProofDesk x, String text) {
-        x.trim(0);
-        for (int at = 0; at < text.length(); at += 20) {
-            x.feed(word(text, at), word(text, at + 4), word(text, at + 8), word(text, at + 12), word(text, at + 16));
-        }
-        x.trim(text.length());
-    }
-
-    private static int read(ProofDesk x, String text) {
-        tape(x, text);
-        return x.read();
-    }
-
-    private static void reads(String text, int want) {
-        ProofDesk x = new ProofDesk();
-        due("read " + text, read(x, text), want);
-        due("errorAt behind " + text, x.errorAt(), -1);
-        due("the tape behind " + text, x.count(1), 0);
-        due("formulas behind " + text, x.count(0), want + 1);
-    }
-
-    private static void refuses(String text, int at) {
-        ProofDesk x = new ProofDesk();
-        due("read " + text, read(x, text), -1);
-        due("errorAt behind " + text, x.errorAt(), at);
-        due("the tape behind " + text, x.count(1), 0);
-        due("formulas behind " + text, x.count(0), 0);
-    }
-
-    private static String written(ProofDesk x, int f) {
-        int size = x.write(f);
-        StringBuilder text = new StringBuilder();
-        for (int k = 0; k < size; k++) {
-            text.append((char) x.byteAt(k));
-        }
-        return text.toString();
-    }
-
-    private static void writes(String text, String want) {
-        ProofDesk x = new ProofDesk();
-        String got = written(x, read(x, text));
-        checks++;
-        if (!got.equals(want)) {
-            wrong++;
-            System.out.println(part + ": " + text + " was written " + got + ", due is " + want);
-        }
-    }
-
-    private static String times(int n, String text) {
-        StringBuilder all = new StringBuilder();
-        for (int k = 0; k < n; k++) {
-            all.append(text);
-        }
-        return all.toString();
-    }
-
-    /** A desk with 240 formulas: 0 is the letter a, and each other one denies the one ahead. */
-    private static ProofDesk full() {
-        ProofDesk x = new ProofDesk();
-        x.make(0, 0, 0);
-        for (int k = 0; k < 239; k++) {
-            x.make(2, k, 0);
-        }
-        return x;
-    }
-
-    private static void steps(ProofDesk x, int want, int rule, int f, int a, int b, int c) {
-        int lines = x.count(3);
-        String what = "step(" + rule + ", " + f + ", " + a + ", " + b + ", " + c + ")";
-        due(what, x.step(rule, f, a, b, c), want);
-        due("lines behind " + what, x.count(3), want == 0 ? lines + 1 : lines);
-    }
-
-    private static void lineIs(ProofDesk x, int line, int... want) {
-        for (int what = 0; what < want.length; what++) {
-            due("line(" + line + ", " + what + ")", x.line(line, what), want[what]);
-        }
-    }
-
-    private static void hintIs(ProofDesk x, int f, int rule, int a, int b, int c) {
-        int[] want = {rule, a, b, c};
-        for (int which = 0; which < 4; which++) {
-            due("hint(" + f + ", " + which + ")", x.hint(f, which), want[which]);
-        }
-    }
-
-    private static void noHint(ProofDesk x, int f) {
-        hintIs(x, f, -1, -1, -1, -1);
-    }
-
+public final class PromiseTest extends Checks {
     public static void main(String[] args) {
         newObject();
         feed();
@@ -186,10 +37,7 @@ public final class PromiseTest {
         instanceOfParts();
         thrift();
         digest();
-        System.out.println(wrong == 0 ? checks + " checks of the promises hold" : wrong + " faults of the promises");
-        if (wrong != 0) {
-            System.exit(1);
-        }
+        finish("the promises");
     }
 
     private static void newObject() {
@@ -473,26 +321,37 @@ public final class PromiseTest {
 
     private static void isTrue() {
         part = "8 isTrue";
-        ProofDesk x = new ProofDesk();
         for (int k = 0; k < 8; k++) {
-            int f = x.make(0, k, 0);
+            ProofDesk y = new ProofDesk();
+            int f = y.make(0, k, 0);
             for (int set = 0; set < 256; set++) {
-                due("letter " + k + " for " + set, x.isTrue(f, set) ? 1 : 0, set >> k & 1);
+                due("letter " + k + " for " + set, y.isTrue(f, set) ? 1 : 0, set >> k & 1);
             }
         }
-        int then = x.make(5, 2, 6);
-        int and = x.make(3, 2, 6);
-        int or = x.make(4, 2, 6);
-        int not = x.make(2, 7, 0);
-        int no = x.make(1, 0, 0);
-        for (int set = 0; set < 256; set++) {
-            boolean c = (set & 4) != 0;
-            boolean g = (set & 64) != 0;
-            due("c>g", x.isTrue(then, set) ? 1 : 0, c && !g ? 0 : 1);
-            due("c&g", x.isTrue(and, set) ? 1 : 0, c && g ? 1 : 0);
-            due("c|g", x.isTrue(or, set) ? 1 : 0, c || g ? 1 : 0);
-            due("-h", x.isTrue(not, set) ? 1 : 0, set < 128 ? 1 : 0);
-            due("#", x.isTrue(no, set) ? 1 : 0, 0);
+        // A new object now and then: one is used for at most 512 calls.
+        for (int from = 0; from < 256; from += 64) {
+            ProofDesk y = new ProofDesk();
+            y.make(0, 2, 0);
+            y.make(0, 6, 0);
+            y.make(0, 7, 0);
+            int then = y.make(5, 0, 1);
+            int and = y.make(3, 0, 1);
+            int or = y.make(4, 0, 1);
+            int not = y.make(2, 2, 0);
+            int no = y.make(1, 0, 0);
+            for (int set = from; set < from + 64; set++) {
+                boolean c = (set & 4) != 0;
+                boolean g = (set & 64) != 0;
+                due("c>g", y.isTrue(then, set) ? 1 : 0, c && !g ? 0 : 1);
+                due("c&g", y.isTrue(and, set) ? 1 : 0, c && g ? 1 : 0);
+                due("c|g", y.isTrue(or, set) ? 1 : 0, c || g ? 1 : 0);
+                due("-h", y.isTrue(not, set) ? 1 : 0, set < 128 ? 1 : 0);
+                due("#", y.isTrue(no, set) ? 1 : 0, 0);
+            }
+        }
+        ProofDesk x = new ProofDesk();
+        for (int k = 0; k < 13; k++) {
+            x.make(k < 8 ? 0 : 2, k < 8 ? k : k - 1, 0);
         }
         thrown("no formula", x, INDEX, () -> x.isTrue(13, 0));
         thrown("no formula", x, INDEX, () -> x.isTrue(-1, 0));
@@ -1408,36 +1267,5 @@ public final class PromiseTest {
         long before = x.digest();
         x.trim(2);
         due("the tape's size stands in it", x.digest() == before ? 1 : 0, 0);
-    }
-
-    private static long summed(ProofDesk x) {
-        long d = 419;
-        for (int what = 0; what <= 8; what++) {
-            d = d * 31 + x.count(what);
-        }
-        for (int f = 0; f < x.count(0); f++) {
-            for (int what = 0; what <= 2; what++) {
-                d = d * 31 + x.formula(f, what);
-            }
-        }
-        for (int k = 0; k < x.count(3); k++) {
-            for (int what = 0; what <= 7; what++) {
-                d = d * 31 + x.line(k, what);
-            }
-        }
-        for (int k = 0; k < x.count(4); k++) {
-            for (int what = 0; what <= 3; what++) {
-                d = d * 31 + x.box(k, what);
-            }
-        }
-        for (int k = 0; k < x.count(7); k++) {
-            for (int what = 0; what <= 6; what++) {
-                d = d * 31 + x.theorem(k, what);
-            }
-        }
-        for (int k = 0; k < x.count(2); k++) {
-            d = d * 31 + x.byteAt(k);
-        }
-        return d;
     }
 }
