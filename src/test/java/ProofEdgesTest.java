@@ -86,6 +86,7 @@ public final class ProofEdgesTest extends Checks {
         whatBoxTells();
         rangesOfFails();
         noLineFails();
+        failsTakesAllBoxesAndPremises();
         rangesOfHint();
         hintOfEachRule();
         hintNeverTellsATheorem();
@@ -684,6 +685,15 @@ public final class ProofEdgesTest extends Checks {
             {3, 13, NO, 0, 0, 0}, {1, 13, ATHENA, 5, 0, 0}, {1, 13, ATHENA, -1, 0, 0}, {1, 13, ATHENA, MIN, 0, 0},
             {1, 13, ATHENA, MAX, 0, 0}, {1, 13, ATHENA, 16, 0, 0}});
         refusedEach(ProofEdgesTest::desk, new int[] {1, 13, ATHENA, 0, 0, 0});
+        ProofDesk x = theorems();
+        x.begin();
+        x.assume(NO);
+        x.step(11, A, 0, 0, 0);
+        x.close();
+        x.step(7, read(x, "#>a"), 0, 0, 0);
+        due("theorem 5", x.end(), 5);
+        accepted(x, 13, NOTHENNO, 5, 7, 7, 5, 0, 0);
+        refused(x, 3, 13, ATHENA, 5, 0, 0);
     }
 
     private static void ruleTheoremWithPremises() {
@@ -1154,6 +1164,24 @@ public final class ProofEdgesTest extends Checks {
         y.begin();
         y.step(13, BTHENB, 0, 0, 0);
         due("without premises and boxes", y.fails(0), 0);
+    }
+
+    private static void failsTakesAllBoxesAndPremises() {
+        part = "20: all premises are true, and the assumptions of all boxes in which it is";
+        ProofDesk x = new ProofDesk();
+        for (int letter = 0; letter < 8; letter++) {
+            x.make(0, letter, 0);
+        }
+        x.premise(0);
+        x.premise(1);
+        for (int f = 2; f < 8; f++) {
+            due("the assumption of box " + (f - 2), x.assume(f), f);
+        }
+        for (int f = 0; f < 8; f++) {
+            x.step(0, f, f, 0, 0);
+            due("line " + f + " again in the sixth box", x.fails(8 + f), 0);
+            due("line " + f, x.fails(f), 0);
+        }
     }
 
     private static void rangesOfHint() {

@@ -380,6 +380,13 @@ public final class TheoremEdgesTest extends Checks {
         due("b of an or", x.instance(3, x.make(4, big, no), 1), big);
         due("a of a then", x.instance(4, x.make(5, big, no), 0), big);
         due("b of a then", x.instance(4, x.make(5, big, no), 1), no);
+        ProofDesk y = new ProofDesk();
+        int falsum = y.make(1, 0, 0);
+        y.premise(y.make(5, falsum, y.make(0, 0, 0)));
+        y.end();
+        due("# stays #", y.instance(0, y.make(5, falsum, falsum), 0), falsum);
+        due("# becomes nothing else", y.instance(0, read(y, "a>#"), 0), -1);
+        due("# becomes nothing else", y.instance(0, read(y, "-#>a"), 0), -1);
         int deep = read(x, "(a|b)&-((b>a)>#)|-h");
         due("a", x.instance(5, deep, 0), read(x, "a|b"));
         due("c", x.instance(5, deep, 2), read(x, "b>a"));
@@ -400,6 +407,11 @@ public final class TheoremEdgesTest extends Checks {
         due("formula 15 has just enough", x.instance(15, 15, 0), 0);
         thrown("formula 240", x, INDEX, () -> x.instance(15, 240, 0));
         thrown("theorem 16", x, INDEX, () -> x.instance(16, 239, 0));
+        ProofDesk y = full();
+        y.premise(239);
+        y.end();
+        due("the last formula is the conclusion", y.instance(0, 239, 0), 0);
+        due("one not too few", y.instance(0, 238, 0), -1);
     }
 
     private static void instanceChangesNothing() {
